@@ -833,7 +833,7 @@ public final class CellarPushers {
 
         private void pairWithEach(Prices prices, int set) {
             for (int i = 0; i < size && i < MOST_BARRELS; i++) {
-                int more = set | 1 << i;
+                int more = set | (1 << i);
                 int price = prices.priceTo(marks[i]);
                 if (more != set && price != NONE && set < sums.length && more < sums.length) {
                     sums[more] = Math.min(sums[more], sums[set] + price);
@@ -897,6 +897,7 @@ public final class CellarPushers {
         private static final long WALKED = 1L;
         private static final long PUSHED = (1L << STEP_BITS) + 1L;
         private static final long NO_COST = -1L;
+        private static final long NO_OFFER = 1L << 60;
         private static final long LEADS = 1L << 50;
 
         private final int[] cellOf;
@@ -935,7 +936,7 @@ public final class CellarPushers {
             liveCells = setOf(live);
             doneRank = rankOf(setOf(ground.wanted));
             listSets(Long.bitCount(scene.barrels));
-            int start = rankOf(setOf(scene.barrels)) << MAN_BITS | Math.max(0, cellAt(scene.manAt));
+            int start = (rankOf(setOf(scene.barrels)) << MAN_BITS) | Math.max(0, cellAt(scene.manAt));
             explore(start);
             if (best == NO_COST) {
                 return NONE;
@@ -983,21 +984,19 @@ public final class CellarPushers {
 
         /** How many sets of as many cells are less as numbers: binomials of its cells, from the least on. */
         private static int rankOf(int set) {
-            int first = lowestOf(set);
-            int rest = set & set - 1;
-            int second = lowestOf(rest);
-            rest &= rest - 1;
-            int third = lowestOf(rest);
-            return first + second * (second - 1) / 2 + third * (third - 1) * (third - 2) / 6;
-        }
-
-        /** 0, which adds nothing to a rank, for the empty set. */
-        private static int lowestOf(int set) {
-            return set == 0 ? 0 : Integer.bitCount((set & -set) - 1);
+            int rank = 0;
+            int rest = set;
+            for (int i = 1; i <= MOST_SEARCHED_BARRELS && rest != 0; i++) {
+                int cell = Integer.bitCount((rest & -rest) - 1);
+                int pairs = cell * (cell - 1) / 2;
+                rank += i == 1 ? cell : i == 2 ? pairs : pairs * (cell - 2) / 3;
+                rest &= rest - 1;
+            }
+            return rank;
         }
 
         private void listSets(int barrels) {
-            int last = (1 << barrels) - 1 << Math.max(0, cells - barrels);
+            int last = ((1 << barrels) - 1) << Math.max(0, cells - barrels);
             int count = Math.min(MOST_SETS, rankOf(last) + 1);
             makeRoom(count);
             int set = (1 << barrels) - 1;
@@ -1009,8 +1008,9 @@ public final class CellarPushers {
 
         /** The next greater number with as many bits. */
         private static int nextSet(int set) {
-            int carried = set + (set & -set);
-            return carried | (set ^ carried) >>> 2 + lowestOf(set);
+            int lowest = set & -set;
+            int carried = set + lowest;
+            return carried | ((set ^ carried) >>> (2 + Integer.bitCount(lowest - 1)));
         }
 
         private void makeRoom(int count) {
@@ -1036,7 +1036,7 @@ public final class CellarPushers {
             int turns = 2 * order.length;
             for (int turn = 0; turn < turns && pusher < reached && pusher < order.length; turn++) {
                 boolean canWalk = walker < reached && walker < order.length;
-                long byWalk = canWalk ? costOf(order[walker]) + WALKED : Long.MAX_VALUE;
+                long byWalk = canWalk ? costOf(order[walker]) + WALKED : NO_OFFER;
                 long byPush = costOf(order[pusher]) + PUSHED;
                 if (best != NO_COST && Math.min(byWalk, byPush) > best) {
                     break;
@@ -1094,7 +1094,7 @@ public final class CellarPushers {
             if (next < 0 || (setIn(situation) >> next & 1) != 0) {
                 return NONE;
             }
-            return situation & ~MAN_MASK | next;
+            return (situation & ~MAN_MASK) | next;
         }
 
         private int pushedTo(int situation, int way) {
@@ -1107,7 +1107,8 @@ public final class CellarPushers {
             if (last == next || (liveCells >> last & 1) == 0) {
                 return NONE;
             }
-            return rankOf(set ^ 1 << next ^ 1 << last) << MAN_BITS | next;
+            int pushed = set ^ (1 << next) ^ (1 << last);
+            return (rankOf(pushed) << MAN_BITS) | next;
         }
 
         private int rolledTo(int set, int from, int way) {
