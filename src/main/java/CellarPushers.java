@@ -844,6 +844,9 @@ public final class CellarPushers {
 
     /** A row of ways: the plan, and the tape. */
     private static final class Ways {
+        /** More than there are situations in any search. */
+        private static final int MOST_PLANNED = 1 << 17;
+
         int size;
         private int[] ways;
 
@@ -856,8 +859,8 @@ public final class CellarPushers {
         }
 
         void append(int way) {
-            if (size >= ways.length) {
-                ways = Arrays.copyOf(ways, 2 * ways.length + 1);
+            if (size >= ways.length && size < MOST_PLANNED) {
+                ways = Arrays.copyOf(ways, 2 * size + 1);
             }
             if (size < ways.length) {
                 ways[size] = way;
@@ -892,7 +895,6 @@ public final class CellarPushers {
         private static final int MAN_BITS = 5;
         private static final int MAN_MASK = (1 << MAN_BITS) - 1;
         private static final int MOST_SETS = 4060;
-        private static final int MOST_SITUATIONS = MOST_SETS << MAN_BITS;
         private static final int STEP_BITS = 20;
         private static final long WALKED = 1L;
         private static final long PUSHED = (1L << STEP_BITS) + 1L;

@@ -405,6 +405,11 @@ public final class PromiseTests {
         due("first", x.undo(), 0);
         due("no more", x.undo(), -2);
         due("at the beginning", x.count(8), 0);
+        CellarPushers many = drawn("m");
+        for (int i = 1; i <= 507; i++) {
+            many.walk(0, 0);
+        }
+        due("all acts of a run", many.undo(), 506);
         CellarPushers done = drawn("mb.O");
         done.fewest();
         done.follow();
@@ -815,9 +820,28 @@ public final class PromiseTests {
         due("a way more", x.tell(0), 4);
     }
 
-    /** The ways of the RAMPS make the man go round again and again. */
+    /** A found one: the man has to go round again and again. */
     private static void longPlan() {
+        promise = 24;
+        CellarPushers x = drawn("#^.#####", "#^ssm...", "#OO^###.", "#O..###s", "#vb.###s", "###s###.", "###ss#s.",
+                "####s..#");
+        x.barrel(3, 1, true);
+        x.barrel(3, 5, true);
+        due("pushes", x.fewest(), 26);
+        due("steps", x.steps(), 356);
         promise = 29;
+        due("copied", x.copy(), 356);
+        promise = 32;
+        due("all", x.check(), 1356);
+        promise = 28;
+        for (int i = 357; i <= 400; i++) {
+            due("more", x.tell(0), i);
+        }
+        due("full", x.tell(0), -2);
+        promise = 27;
+        due("followed", x.follow(), 356);
+        due("done", x.isDone(), true);
+        due("its pushes", x.count(4), 26);
     }
 
     private static void forged() {
