@@ -1,3 +1,6 @@
+import java.lang.reflect.Field;
+import java.lang.reflect.Method;
+
 /** For each promise of the document: ordinary inputs, the edges that it names, and wrong inputs. */
 public final class PromiseTests {
     private static final int NORTH = 0;
@@ -12,7 +15,7 @@ public final class PromiseTests {
     private PromiseTests() {
     }
 
-    public static void main(String[] args) {
+    public static void main(String[] args) throws ReflectiveOperationException {
         newObject();
         fields();
         fieldsInUse();
@@ -46,6 +49,7 @@ public final class PromiseTests {
         followed();
         told();
         copied();
+        copiedAtTheLimit();
         longPlan();
         forged();
         hushed();
@@ -818,6 +822,39 @@ public final class PromiseTests {
         due("the plan stays", x.plan(0), 1);
         due("three", x.count(7), 3);
         due("a way more", x.tell(0), 4);
+    }
+
+    /** No cellar is known whose plan has more than 400 ways: such a plan is written into the object here. */
+    private static void copiedAtTheLimit() throws ReflectiveOperationException {
+        promise = 29;
+        CellarPushers x = drawn("m.");
+        for (int i = 0; i < 400; i++) {
+            planMore(x, i % 4);
+        }
+        due("400", x.copy(), 400);
+        due("full", x.tell(0), -2);
+        x.hush();
+        x.tell(3);
+        planMore(x, 2);
+        due("the 401st", x.plan(400), 2);
+        due("401", x.copy(), -2);
+        due("refused: the tape stays", x.count(7), 1);
+        due("its way, too", x.forge(0, 0), 3);
+        for (int i = 401; i < 3000; i++) {
+            planMore(x, i % 4);
+        }
+        due("many", x.steps(), 3000);
+        due("the last", x.plan(2999), 2999 % 4);
+        due("many, copied", x.copy(), -2);
+    }
+
+    private static void planMore(CellarPushers x, int way) throws ReflectiveOperationException {
+        Field field = CellarPushers.class.getDeclaredField("thePlan");
+        field.setAccessible(true);
+        Object plan = field.get(x);
+        Method append = plan.getClass().getDeclaredMethod("append", int.class);
+        append.setAccessible(true);
+        append.invoke(plan, way);
     }
 
     /** A found one: the man has to go round again and again. */
