@@ -3,10 +3,10 @@ import java.lang.reflect.Method;
 
 /** For each promise of the document: ordinary inputs, the edges that it names, and wrong inputs. */
 public final class PromiseTests {
-    private static final int NORTH = 0;
-    private static final int EAST = 1;
-    private static final int SOUTH = 2;
-    private static final int WEST = 3;
+    private static final int NORTH = Drawing.NORTH;
+    private static final int EAST = Drawing.EAST;
+    private static final int SOUTH = Drawing.SOUTH;
+    private static final int WEST = Drawing.WEST;
 
     private static int promise;
     private static int passed;
@@ -75,34 +75,8 @@ public final class PromiseTests {
         due(what, got ? 1 : 0, want ? 1 : 0);
     }
 
-    /**
-     * A cellar as drawn: # WALL, . FLOOR, o MARK, O a WANTED one, s SLIDE, ^ &gt; v &lt; RAMP, g GRATE, G a WANTED
-     * one, m the man on FLOOR, b a barrel on FLOOR, B on a WANTED MARK, h on a GRATE, H on a WANTED one.
-     */
     private static CellarPushers drawn(String... rows) {
-        CellarPushers cellar = new CellarPushers(rows[0].length(), rows.length);
-        for (int y = 0; y < rows.length; y++) {
-            for (int x = 0; x < rows[y].length(); x++) {
-                draw(cellar, x, y, rows[y].charAt(x));
-            }
-        }
-        return cellar;
-    }
-
-    private static void draw(CellarPushers cellar, int x, int y, char sign) {
-        int ramp = "^>v<".indexOf(sign);
-        int kind = "#".indexOf(sign) >= 0 ? 0 : ".mb".indexOf(sign) >= 0 ? 1 : "oOB".indexOf(sign) >= 0 ? 2
-                : sign == 's' ? 3 : ramp >= 0 ? 4 : 5;
-        cellar.field(x, y, kind, Math.max(0, ramp));
-        if ("OBGH".indexOf(sign) >= 0) {
-            cellar.want(x, y, true);
-        }
-        if ("bBhH".indexOf(sign) >= 0) {
-            cellar.barrel(x, y, true);
-        }
-        if (sign == 'm') {
-            cellar.man(x, y);
-        }
+        return Drawing.drawn(rows);
     }
 
     private static void newObject() {
