@@ -138,6 +138,12 @@ final class AskSentences {
         for (int i = 0; i < due.length; i++) {
             told.due("dead(" + i % 5 + ", " + i / 5 + ")", x.dead(i % 5, i / 5), due[i]);
         }
+        told.due("dead, the first field", largeWith(3, 3, 7, 7).dead(0, 0), 1);
+        told.due("dead, the last field, WANTED", largeWith(3, 3, 7, 7).dead(7, 7), 0);
+        told.due("dead, the first field, WANTED", largeWith(3, 3, 0, 0).dead(0, 0), 0);
+        told.due("dead, the last field", largeWith(3, 3, 0, 0).dead(7, 7), 1);
+        told.due("dead, to the last field", largeWith(3, 3, 7, 7).dead(1, 7), 0);
+        told.due("dead, to the first field", largeWith(3, 3, 0, 0).dead(0, 6), 0);
         told.quote("-2 when there is no such field.");
         for (int[] at : OUTSIDE) {
             told.due("dead outside", Drawing.drawn("...", "..O").dead(at[0], at[1]), -2);
@@ -159,6 +165,8 @@ final class AskSentences {
         line.field(0, 2, 0, 0);
         told.due("held, a WALL beside it", line.held(1, 2), 1);
         told.due("held, in a MISSING line", line.held(0, 1), 0);
+        told.due("held, the last field", largeWith(7, 7, 0, 0).held(7, 7), 1);
+        told.due("held, the first field", largeWith(0, 0, 0, 0).held(0, 0), 1);
         told.quote("-2 when there is no such field.");
         for (int[] at : OUTSIDE) {
             told.due("held outside", Drawing.drawn("bbb", "...").held(at[0], at[1]), -2);
@@ -262,6 +270,9 @@ final class AskSentences {
         CellarPushers after = Drawing.drawn(before);
         told.due("spoilt, DEAD after HELD", after.spoilt(), 1);
         told.due("why, the DEAD one, not the least HELD one", after.why(), 29);
+        CellarPushers large = largeWith(7, 7, 0, 0);
+        told.due("spoilt, the last of 64", large.spoilt(), 1);
+        told.due("why, the last of 64", large.why(), 63);
         told.quote("-1 when it told neither, and before the first one.");
         told.due("why, before the first one", new CellarPushers(2, 2).why(), -1);
         after.barrel(5, 3, false);
@@ -288,6 +299,10 @@ final class AskSentences {
         told.due("low, the farther one for the nearer", Drawing.drawn(cross).low(), 2 + 4);
         String[] only = {"........", "mb.b.OsO", "........"};
         told.due("low, by slides", Drawing.drawn(only).low(), 4 + 3);
+        told.due("low, there on the first field", Drawing.drawn("B.m").low(), 0);
+        told.due("low, to the first field", Drawing.drawn("O.bm").low(), 2);
+        told.due("low, there on the last field", largeWith(7, 7, 7, 7).low(), 0);
+        told.due("low, to the last field", largeWith(3, 7, 7, 7).low(), 4);
         told.quote("-2 when the cellar is not READY.");
         told.due("low, no man", Drawing.drawn(".bO").low(), -2);
         told.due("low, no barrel", Drawing.drawn("m.O").low(), -2);
@@ -296,6 +311,17 @@ final class AskSentences {
         told.due("low, a barrel less", Drawing.drawn("mbOO").low(), -2);
         String[] more = {"mbbbbbb.", ".bbbbbb.", "OOOOOOO.", "OOOOOO.."};
         told.due("low, 12 and 13", Drawing.drawn(more).low(), -2);
+    }
+
+    /** 64 fields, one WANTED, one with a barrel. */
+    private static CellarPushers largeWith(int barrelX, int barrelY, int x, int y) {
+        String row = "........";
+        CellarPushers large = Drawing.drawn(row, row, row, row, row, row, row, row);
+        large.field(x, y, 2, 0);
+        large.want(x, y, true);
+        large.barrel(barrelX, barrelY, true);
+        large.man(4, 4);
+        return large;
     }
 
     private void prices() {

@@ -59,10 +59,27 @@ final class PlanSentences {
         told.due("past a GRATE", Drawing.drawn("mb.gO").fewest(), -1);
         told.due("along a RAMP", Drawing.drawn("mb>.O").fewest(), 2);
         told.due("one off its place, for another", Drawing.drawn("......", "..Os..", "..Bb.m", "......").fewest(), 2);
+        told.due("stopped by another barrel", Drawing.drawn("......", "mbssBs", "...O..").fewest(), 2);
         told.due("DONE", Drawing.drawn("mB").fewest(), 0);
         told.due("DONE, all three", Drawing.drawn("BHB", "m..").fewest(), 0);
         told.due("three barrels", Drawing.drawn("mb.O.", ".b.O.", ".b.O.", ".....").fewest(), 6);
+        told.due("to the first field", Drawing.drawn("O.bm").fewest(), 2);
+        told.due("to the first field, over slides", Drawing.drawn("Ossbm").fewest(), 1);
+        told.due("to the first field that is no WALL", Drawing.drawn("####", "#O.m", "#.b.", "#...").fewest(), 2);
+        told.due("to the last field", Drawing.drawn("....", "mb.O").fewest(), 2);
+        told.due("to the last of 64", lastOf64().fewest(), 6);
         told.due("nothing is done", Drawing.drawn("mbO").isDone(), false);
+    }
+
+    private static CellarPushers lastOf64() {
+        CellarPushers x = new CellarPushers(8, 8);
+        for (int i = 0; i < 8; i++) {
+            x.field(i, 7, i == 7 ? 2 : 1, 0);
+        }
+        x.want(7, 7, true);
+        x.barrel(1, 7, true);
+        x.man(0, 7);
+        return x;
     }
 
     private void noFewest() {
@@ -156,6 +173,19 @@ final class PlanSentences {
         CellarPushers both = Drawing.drawn("....", ".O..", ".b..", "....", "...m");
         both.fewest();
         plan(both, "0330");
+        String[][] corners = {{"m..", ".b.", "..O"}, {"..m", ".b.", "O.."}, {"..O", ".b.", "m.."}, {"O..", ".b.", "..m"}};
+        String[] ways = {"12321", "23032", "01210", "03230"};
+        for (int i = 0; i < corners.length; i++) {
+            CellarPushers corner = Drawing.drawn(corners[i]);
+            told.due("to a corner", corner.fewest(), 2);
+            plan(corner, ways[i]);
+        }
+        CellarPushers ends = Drawing.drawn(".mbO", ".bO.");
+        told.due("with another end by other ways", ends.fewest(), 2);
+        plan(ends, "13321");
+        CellarPushers pushes = Drawing.drawn("....", ".b..", "m...", "O...");
+        told.due("with other pushes by other ways", pushes.fewest(), 3);
+        plan(pushes, "00122123");
         CellarPushers two = Drawing.drawn("..O..", ".....", "..b..", ".m.b.", "...O.", ".....");
         told.due("two barrels", two.fewest(), 3);
         plan(two, "100122");
