@@ -590,11 +590,15 @@ final class ChangeSentences {
             x.fewest();
             x.walk(0, 1);
             x.step(NORTH);
+            x.step(SOUTH);
+            x.walk(0, 2);
+            x.undo();
+            x.undo();
             x.undo();
             x.undo();
             told.due("act, refused", x.step(WEST), -3);
             told.due("act, refused, too", x.push(1, 1, 4), -2);
-            told.due("redo is left", x.redo(), 1);
+            told.due("redo is left", x.redo(), 3);
             told.due("act " + act + ", anew", act(x, act) >= 0, true);
             told.due("redo", x.redo(), -2);
             told.due("acts", x.count(6), 2);

@@ -20,10 +20,10 @@ final class Everything {
     /** The cellar is spent by it: all is undone, the tape forged and no line missing at the end. */
     static String of(CellarPushers cellar) {
         Everything everything = new Everything(cellar);
+        everything.tellActs();
         everything.tellFields();
         everything.tellAnswers();
         everything.tellTape();
-        everything.tellActs();
         everything.tellLines();
         return everything.text.toString();
     }
@@ -69,7 +69,9 @@ final class Everything {
         tell("end of the tape", cellar.forge(last, 0));
     }
 
+    /** Told first, so that no question can have changed before what can be done again. */
     private void tellActs() {
+        tellMoment();
         int more = cellar.redo();
         for (int i = 0; i < MOST_SHOWN && more >= 0; i++) {
             tell("redo", more);
@@ -87,6 +89,7 @@ final class Everything {
     private void tellMoment() {
         tell("steps", cellar.count(3));
         tell("pushes", cellar.count(4));
+        tell("acts", cellar.count(6));
         for (int i = 0; i < width * height; i++) {
             text.append(cellar.on(i % width, i / width));
         }

@@ -1,6 +1,3 @@
-import java.lang.reflect.Field;
-import java.lang.reflect.Method;
-
 /** The sentences of promises 24 to 33: plans, the tape, and what is counted. */
 final class PlanSentences {
     private static final int NORTH = Drawing.NORTH;
@@ -16,7 +13,7 @@ final class PlanSentences {
         this.told = told;
     }
 
-    void test() throws ReflectiveOperationException {
+    void test() {
         fewest();
         noFewest();
         refusedSearches();
@@ -157,6 +154,16 @@ final class PlanSentences {
                 "#O######");
         told.due("pushes at the end of a long walk", winding.fewest(), 2);
         plan(winding, "1111112233333222");
+        CellarPushers longest = LongPlan.cellar();
+        PlainCellar plain = LongPlan.plain();
+        told.due("pushes of a long one", longest.fewest(), plain.fewest());
+        told.due("its steps", longest.steps(), plain.steps());
+        for (int i = 0; i < plain.steps(); i++) {
+            told.due("plan(" + i + ")", longest.plan(i), plain.plan(i));
+        }
+        told.due("all that can be done", longest.follow(), LongPlan.STEPS);
+        told.due("its pushes", longest.count(4), LongPlan.PUSHES);
+        told.due("DONE", longest.isDone(), true);
     }
 
     private void leastPlans() {
@@ -382,34 +389,53 @@ final class PlanSentences {
         told.due("new", new CellarPushers(2, 2).copy(), 0);
     }
 
-    /** No cellar is known whose plan has more than 400 ways: such a plan is written into the object here. */
-    private void copiesAtTheLimit() throws ReflectiveOperationException {
+    /** The first steps of a plan are done one by one, so that the rest of it is the plan from there. */
+    private void copiesAtTheLimit() {
         told.quote("-2 when they are more than 400.");
-        CellarPushers x = new CellarPushers(2, 2);
-        for (int i = 0; i < 399; i++) {
-            planMore(x, i % 4);
-        }
-        told.due("copy of 399", x.copy(), 399);
-        planMore(x, 3);
+        CellarPushers x = LongPlan.cellar();
+        told.due("fewest", x.fewest(), LongPlan.PUSHES);
+        told.due("steps", x.steps(), LongPlan.STEPS);
+        refusedCopy(x);
+        stepOn(x, LongPlan.STEPS - 401);
+        x.fewest();
+        told.due("steps, some done", x.steps(), 401);
+        refusedCopy(x);
+        stepOn(x, 1);
+        x.fewest();
+        told.due("steps, one more done", x.steps(), 400);
+        int last = x.plan(399);
         told.due("copy of 400", x.copy(), 400);
-        told.due("the last of them", x.forge(399, 0), 3);
-        x.hush();
-        x.tell(2);
-        planMore(x, 1);
-        told.due("steps", x.steps(), 401);
-        told.due("copy of 401", x.copy(), -2);
-        told.due("the tape stays", x.count(7), 1);
-        told.due("its way", x.forge(0, 0), 2);
-        told.due("the plan stays", x.plan(400), 1);
+        told.due("count(7)", x.count(7), 400);
+        told.due("tell, a 401st", x.tell(0), -2);
+        told.due("check, 400", x.check(), 1400);
+        told.due("forge, the 400th", x.forge(399, last), last);
+        told.due("follow", x.follow(), 400);
+        told.due("isDone", x.isDone(), true);
+        told.due("steps of all", x.count(3), LongPlan.STEPS);
+        told.due("pushes of all", x.count(4), LongPlan.PUSHES);
     }
 
-    private static void planMore(CellarPushers x, int way) throws ReflectiveOperationException {
-        Field field = CellarPushers.class.getDeclaredField("thePlan");
-        field.setAccessible(true);
-        Object plan = field.get(x);
-        Method append = plan.getClass().getDeclaredMethod("append", int.class);
-        append.setAccessible(true);
-        append.invoke(plan, way);
+    private void refusedCopy(CellarPushers x) {
+        int steps = x.steps();
+        int last = x.plan(steps - 1);
+        int acts = x.count(6);
+        x.hush();
+        x.tell(3);
+        x.tell(2);
+        told.due("copy of " + steps, x.copy(), -2);
+        told.due("the tape stays", x.count(7), 2);
+        told.due("its first way", x.forge(0, 3), 3);
+        told.due("its last way", x.forge(1, 2), 2);
+        told.due("the plan stays", x.steps(), steps);
+        told.due("its end", x.plan(steps - 1), last);
+        told.due("behind its end", x.plan(steps), -2);
+        told.due("acts", x.count(6), acts);
+    }
+
+    private void stepOn(CellarPushers x, int steps) {
+        for (int i = 0; i < steps; i++) {
+            told.due("step", x.step(x.plan(i)) >= 0, true);
+        }
     }
 
     private void forges() {

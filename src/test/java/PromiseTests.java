@@ -1,6 +1,3 @@
-import java.lang.reflect.Field;
-import java.lang.reflect.Method;
-
 /** For each promise of the document: ordinary inputs, the edges that it names, and wrong inputs. */
 public final class PromiseTests {
     private static final int NORTH = Drawing.NORTH;
@@ -15,7 +12,7 @@ public final class PromiseTests {
     private PromiseTests() {
     }
 
-    public static void main(String[] args) throws ReflectiveOperationException {
+    public static void main(String[] args) {
         newObject();
         fields();
         fieldsInUse();
@@ -49,7 +46,6 @@ public final class PromiseTests {
         followed();
         told();
         copied();
-        copiedAtTheLimit();
         longPlan();
         forged();
         hushed();
@@ -798,61 +794,22 @@ public final class PromiseTests {
         due("a way more", x.tell(0), 4);
     }
 
-    /** No cellar is known whose plan has more than 400 ways: such a plan is written into the object here. */
-    private static void copiedAtTheLimit() throws ReflectiveOperationException {
-        promise = 29;
-        CellarPushers x = drawn("m.");
-        for (int i = 0; i < 400; i++) {
-            planMore(x, i % 4);
-        }
-        due("400", x.copy(), 400);
-        due("full", x.tell(0), -2);
-        x.hush();
-        x.tell(3);
-        planMore(x, 2);
-        due("the 401st", x.plan(400), 2);
-        due("401", x.copy(), -2);
-        due("refused: the tape stays", x.count(7), 1);
-        due("its way, too", x.forge(0, 0), 3);
-        for (int i = 401; i < 3000; i++) {
-            planMore(x, i % 4);
-        }
-        due("many", x.steps(), 3000);
-        due("the last", x.plan(2999), 2999 % 4);
-        due("many, copied", x.copy(), -2);
-    }
-
-    private static void planMore(CellarPushers x, int way) throws ReflectiveOperationException {
-        Field field = CellarPushers.class.getDeclaredField("thePlan");
-        field.setAccessible(true);
-        Object plan = field.get(x);
-        Method append = plan.getClass().getDeclaredMethod("append", int.class);
-        append.setAccessible(true);
-        append.invoke(plan, way);
-    }
-
-    /** A found one: the man has to go round again and again. */
     private static void longPlan() {
         promise = 24;
-        CellarPushers x = drawn("#^.#####", "#^ssm...", "#OO^###.", "#O..###s", "#vb.###s", "###s###.", "###ss#s.",
-                "####s..#");
-        x.barrel(3, 1, true);
-        x.barrel(3, 5, true);
-        due("pushes", x.fewest(), 26);
-        due("steps", x.steps(), 356);
+        CellarPushers x = LongPlan.cellar();
+        due("pushes", x.fewest(), LongPlan.PUSHES);
+        due("steps", x.steps(), LongPlan.STEPS);
+        promise = 26;
+        due("the last way", x.plan(LongPlan.STEPS - 1) >= 0, true);
+        due("behind it", x.plan(LongPlan.STEPS), -2);
         promise = 29;
-        due("copied", x.copy(), 356);
-        promise = 32;
-        due("all", x.check(), 1356);
-        promise = 28;
-        for (int i = 357; i <= 400; i++) {
-            due("more", x.tell(0), i);
-        }
-        due("full", x.tell(0), -2);
+        x.tell(2);
+        due("copy of more than 400", x.copy(), -2);
+        due("the tape stays", x.count(7), 1);
         promise = 27;
-        due("followed", x.follow(), 356);
+        due("followed", x.follow(), LongPlan.STEPS);
         due("done", x.isDone(), true);
-        due("its pushes", x.count(4), 26);
+        due("its pushes", x.count(4), LongPlan.PUSHES);
     }
 
     private static void forged() {

@@ -6,7 +6,7 @@ public final class SentenceTests {
     private SentenceTests() {
     }
 
-    public static void main(String[] args) throws IOException, ReflectiveOperationException {
+    public static void main(String[] args) throws IOException {
         Sentences sentences = new Sentences(Path.of(args[0]));
         new RefusedCalls(sentences).test();
         new TermSentences(sentences).test();
