@@ -3,7 +3,9 @@ import java.nio.file.Files;
 import java.nio.file.Path;
 import java.util.ArrayList;
 import java.util.List;
+import java.util.Map;
 import java.util.Set;
+import java.util.TreeMap;
 import java.util.TreeSet;
 import java.util.regex.Matcher;
 import java.util.regex.Pattern;
@@ -17,6 +19,9 @@ public final class LanguageTest {
             "^( +)((?:public |private |static )*)([A-Za-z\\[\\]]+) ([a-zA-Z]+)\\(([^)]*)\\) \\{$");
     private static final Pattern LIBRARY = Pattern.compile(
             "\\b(String|StringBuilder|System|Arrays|Math|Integer|Long|Object|Character|Boolean)\\.?(\\w*)");
+
+    private static final Pattern HEAD = Pattern.compile("^ +[\\w\\[\\] ]*?\\b(\\w+)\\([^()]*\\) \\{$");
+    private static final Pattern CALL = Pattern.compile("\\b(?!(?:if|for|while|switch|return)\\b)(\\w+)\\(");
 
     private static int passed;
     private static int failed;
@@ -33,6 +38,7 @@ public final class LanguageTest {
         methods(code);
         rule("3: signs of the text", text.chars().allMatch(c -> c == '\n' || c >= 32 && c < 127));
         rule("11: classes", count(code, "\\bclass \\w+") <= 12);
+        callDepths(code);
         System.out.println("LanguageTest: " + passed + " passed, " + failed + " failed");
         if (failed != 0) {
             System.exit(1);
@@ -116,5 +122,39 @@ public final class LanguageTest {
         rule("1: " + name + " is neither public nor private",
                 matcher.group(1).length() > 4 || !matcher.group(2).isEmpty() && !matcher.group(2).equals("static "));
         rule("11: " + name, matcher.group(5).isEmpty() || matcher.group(5).split(",").length <= 7);
+    }
+
+    /** Calls are told apart by their names alone, so a depth may be told too large, never too small. */
+    private static void callDepths(String code) {
+        Map<String, Set<String>> calls = new TreeMap<>();
+        String method = "";
+        for (String line : code.split("\n")) {
+            Matcher head = HEAD.matcher(line);
+            boolean isHead = head.matches();
+            method = isHead ? head.group(1) : method;
+            Matcher call = CALL.matcher(isHead || method.isEmpty() ? "" : line);
+            while (call.find()) {
+                calls.computeIfAbsent(method, name -> new TreeSet<>()).add(call.group(1));
+            }
+        }
+        rule("11: calls were seen", calls.size() > FACE.size());
+        for (String name : FACE) {
+            int depth = depthOf(calls, name, new ArrayList<>());
+            rule("8 and 11: calls of " + name + " are " + depth + " deep", depth <= 8);
+        }
+    }
+
+    /** A method that is open already is recursion, which the program does without. */
+    private static int depthOf(Map<String, Set<String>> calls, String method, List<String> open) {
+        if (open.contains(method)) {
+            return 1000;
+        }
+        open.add(method);
+        int deepest = 0;
+        for (String called : calls.getOrDefault(method, Set.of())) {
+            deepest = Math.max(deepest, depthOf(calls, called, open));
+        }
+        open.remove(method);
+        return deepest + 1;
     }
 }

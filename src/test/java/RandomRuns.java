@@ -7,6 +7,9 @@ import java.util.TreeMap;
 /** Random runs of calls, always the same ones, on a CellarPushers and on a PlainCellar: both must answer alike. */
 public final class RandomRuns {
     private static final int CALLS = 512;
+    /** Eight times some of these is a field's number again, by int's wrap-around. */
+    private static final int[] FAR_OFF = {Integer.MIN_VALUE, Integer.MAX_VALUE, -8, 64, 1 << 29, (1 << 29) + 1,
+        (1 << 30) + 2, -(1 << 29), Integer.MIN_VALUE + 1, 1 << 16};
 
     private final Random random;
     private final int width;
@@ -92,15 +95,20 @@ public final class RandomRuns {
     }
 
     private int x() {
-        return random.nextInt(25) == 0 ? random.nextInt(12) - 2 : random.nextInt(Math.max(2, Math.min(8, width)));
+        return random.nextInt(25) == 0 ? outside(12) : random.nextInt(Math.max(2, Math.min(8, width)));
     }
 
     private int y() {
-        return random.nextInt(25) == 0 ? random.nextInt(12) - 2 : random.nextInt(Math.max(2, Math.min(8, height)));
+        return random.nextInt(25) == 0 ? outside(12) : random.nextInt(Math.max(2, Math.min(8, height)));
     }
 
     private int way() {
-        return random.nextInt(30) == 0 ? random.nextInt(8) - 2 : random.nextInt(4);
+        return random.nextInt(30) == 0 ? outside(8) : random.nextInt(4);
+    }
+
+    private int outside(int about) {
+        boolean isFar = random.nextInt(4) == 0;
+        return isFar ? FAR_OFF[random.nextInt(FAR_OFF.length)] : random.nextInt(about) - 2;
     }
 
     private void layGround() {
@@ -243,7 +251,7 @@ public final class RandomRuns {
     private void ask(int x, int y) {
         int toX = x();
         int toY = y();
-        int what = random.nextInt(11) - 1;
+        int what = random.nextInt(20) == 0 ? outside(12) : random.nextInt(11) - 1;
         switch (random.nextInt(12)) {
             case 0 -> same("kind(" + x + ", " + y + ")", asked.kind(x, y), plain.kind(x, y));
             case 1 -> same("on(" + x + ", " + y + ")", asked.on(x, y), plain.on(x, y));
@@ -290,7 +298,7 @@ public final class RandomRuns {
     }
 
     private void tapeCall(int way) {
-        int i = random.nextInt(6) - 1;
+        int i = random.nextInt(20) == 0 ? outside(12) : random.nextInt(6) - 1;
         switch (random.nextInt(7)) {
             case 0, 1 -> same("tell(" + way + ")", asked.tell(way), plain.tell(way));
             case 2 -> same("copy()", asked.copy(), plain.copy());
